@@ -365,10 +365,13 @@ public final class ModuleSigner {
                 for (int a = 0; a < 5; a++) {
                     columns[a] = lanes[a] ^ lanes[a + 5] ^ lanes[a + 10] ^ lanes[a + 15] ^ lanes[a + 20];
                 }
-                for (int i = 0; i < LANES; i++) {
-                    long next = columns[(i + 1) % 5];
-                    long lane = lanes[i] ^ columns[(i + 4) % 5] ^ (next << 1 | next >>> 63);
-                    moved[GOALS[i]] = lane << TURNS[i] | lane >>> 64 - TURNS[i];
+                for (int a = 0; a < 5; a++) {
+                    long next = columns[(a + 1) % 5];
+                    long change = columns[(a + 4) % 5] ^ (next << 1 | next >>> 63);
+                    for (int i = a; i < LANES; i += 5) {
+                        long lane = lanes[i] ^ change;
+                        moved[GOALS[i]] = lane << TURNS[i] | lane >>> 64 - TURNS[i];
+                    }
                 }
                 for (int i = 0; i < LANES; i += 5) {
                     long first = moved[i];
@@ -394,6 +397,13 @@ public final class ModuleSigner {
         private static final int[] HIGHS = {44, 16, 16};
         private static final int[] W = {80, 55, 75};
         private static final int[] C = {32, 48, 64};
+        /** Where in D the hash of P starts, and where the packed polynomials do. */
+        static final int HASH_START = 2 * SEED_SIZE;
+        static final int SMALL_START = HASH_START + HASH_SIZE;
+        /** T1 has so many bits; T0 so many, and is at most so much. */
+        static final int TOP_BITS = 10;
+        static final int DROPPED_BITS = 13;
+        static final int DROPPED_MOST = 4096;
 
         final int k;
         final int l;
@@ -426,9 +436,9 @@ public final class ModuleSigner {
             smallBits = E[set] == 4 ? 4 : 3;
             maskBits = G1[set] == 1 << 19 ? 20 : 18;
             highBits = HIGHS[set] == 16 ? 4 : 6;
-            publicSize = SEED_SIZE + k * Ring.packedSize(Bench.TOP_BITS);
-            secretSize = Bench.SMALL_START + (k + l) * Ring.packedSize(smallBits)
-                + k * Ring.packedSize(Bench.DROPPED_BITS);
+            publicSize = SEED_SIZE + k * Ring.packedSize(TOP_BITS);
+            secretSize = SMALL_START + (k + l) * Ring.packedSize(smallBits)
+                + k * Ring.packedSize(DROPPED_BITS);
             packetSize = c + l * Ring.packedSize(maskBits) + w + k;
         }
 
@@ -694,27 +704,27 @@ public final class ModuleSigner {
 
     /** All rows that the calls work in, made once for an object, and the tools that work on them. */
     private static final class Bench {
-        static final int TOP_BITS = 10;
-        static final int DROPPED_BITS = 13;
-        static final int SMALL_START = 128;
-        private static final int MOST_ROWS = 8;
-        private static final int MOST_COLUMNS = 7;
+        static final int MOST_ROWS = 8;
+        static final int MOST_COLUMNS = 7;
         private static final int PACKED_ROOM = 1024;
 
         final Sampler sampler = new Sampler();
         final Sponge sponge = sampler.sponge;
         final Ring ring = new Ring();
+        /** A, row after row. */
         final int[][] matrix = new int[MOST_ROWS * MOST_COLUMNS][Ring.N];
+        /** S and E. */
         final int[][] secrets = new int[MOST_COLUMNS][Ring.N];
         final int[][] errors = new int[MOST_ROWS][Ring.N];
-        final int[][] drops = new int[MOST_ROWS][Ring.N];
-        final int[][] masks = new int[MOST_COLUMNS][Ring.N];
+        /** Z; also what A is multiplied with. */
         final int[][] answers = new int[MOST_COLUMNS][Ring.N];
+        /** T, W or X: what comes out of A. */
         final int[][] images = new int[MOST_ROWS][Ring.N];
         final int[] ball = new int[Ring.N];
         final int[] product = new int[Ring.N];
-        final Bytes seeds = new Bytes(SMALL_START);
+        /** m. */
         final Bytes digest = new Bytes(HASH_SIZE);
+        /** C. */
         final Bytes challenge = new Bytes(HASH_SIZE);
         final Bytes packed = new Bytes(PACKED_ROOM);
 
@@ -763,9 +773,11 @@ public final class ModuleSigner {
 
     /** KEYS. */
     private static final class KeyMaker {
-        private static final int SEEDS_SIZE = 128;
+        private static final int SEEDS_SIZE = SEED_SIZE + HASH_SIZE + SEED_SIZE;
 
         private final Bench bench;
+        /** r, s and K. */
+        private final Bytes seeds = new Bytes(SEEDS_SIZE);
 
         KeyMaker(Bench bench) {
             this.bench = bench;
@@ -786,17 +798,17 @@ public final class ModuleSigner {
             bench.sponge.take(p.k);
             bench.sponge.take(p.l);
             bench.sponge.turn();
-            bench.sponge.giveTo(bench.seeds, SEEDS_SIZE);
+            bench.sponge.giveTo(seeds, SEEDS_SIZE);
         }
 
         private void drawSecrets(Parameters p) {
-            bench.sampler.matrix(bench.seeds, p, bench.matrix);
+            bench.sampler.matrix(seeds, p, bench.matrix);
             for (int i = 0; i < p.l; i++) {
-                bench.sampler.takeNumbered(bench.seeds, SEED_SIZE, i);
+                bench.sampler.takeNumbered(seeds, SEED_SIZE, i);
                 bench.sampler.small(p.e, bench.secrets[i]);
             }
             for (int i = 0; i < p.k; i++) {
-                bench.sampler.takeNumbered(bench.seeds, SEED_SIZE, p.l + i);
+                bench.sampler.takeNumbered(seeds, SEED_SIZE, p.l + i);
                 bench.sampler.small(p.e, bench.errors[i]);
             }
         }
@@ -820,7 +832,7 @@ public final class ModuleSigner {
                 for (int j = 0; j < Ring.N; j++) {
                     bench.product[j] = top(bench.images[i][j]);
                 }
-                to.addBits(bench.product, Bench.TOP_BITS);
+                to.addBits(bench.product, Parameters.TOP_BITS);
             }
         }
 
@@ -842,15 +854,16 @@ public final class ModuleSigner {
             for (int i = 0; i < p.k; i++) {
                 for (int j = 0; j < Ring.N; j++) {
                     int value = bench.images[i][j];
-                    bench.product[j] = (1 << Bench.DROPPED_BITS - 1) - (value - (top(value) << Bench.DROPPED_BITS));
+                    int rest = value - (top(value) << Parameters.DROPPED_BITS);
+                    bench.product[j] = Parameters.DROPPED_MOST - rest;
                 }
-                to.addBits(bench.product, Bench.DROPPED_BITS);
+                to.addBits(bench.product, Parameters.DROPPED_BITS);
             }
         }
 
         private void addSeed(Bytes to, int from) {
             for (int i = 0; i < SEED_SIZE; i++) {
-                to.add(bench.seeds.at(from + i));
+                to.add(seeds.at(from + i));
             }
         }
 
@@ -861,20 +874,24 @@ public final class ModuleSigner {
 
         /** T1 of one coefficient: what is left then, T0, is -4095 .. 4096. */
         private static int top(int value) {
-            return value + (1 << Bench.DROPPED_BITS - 1) - 1 >> Bench.DROPPED_BITS;
+            return value + Parameters.DROPPED_MOST - 1 >> Parameters.DROPPED_BITS;
         }
     }
 
     /** SIGN. */
     private static final class Signer {
         private static final int MOST_TRIES = 814;
-        private static final int HASH_START = 64;
-        private static final int HINTS_ROOM = 84;
+        private static final int MOST_HINTS = 80;
 
         private final Bench bench;
+        /** T0 of the key, as NTT. */
+        private final int[][] drops = new int[Bench.MOST_ROWS][Ring.N];
+        /** Y. */
+        private final int[][] masks = new int[Bench.MOST_COLUMNS][Ring.N];
         private final Bytes maskSeed = new Bytes(HASH_SIZE);
-        private final Bytes hints = new Bytes(HINTS_ROOM);
-        private final Bytes ends = new Bytes(8);
+        /** The places of the hints, and for each polynomial how many there are up to its end. */
+        private final Bytes hints = new Bytes(MOST_HINTS);
+        private final Bytes ends = new Bytes(Bench.MOST_ROWS);
 
         Signer(Bench bench) {
             this.bench = bench;
@@ -883,7 +900,7 @@ public final class ModuleSigner {
         /** Answers how often it was tried. */
         int sign(Bytes[] slots, Parameters p, int how) {
             readSecret(slots[SECRET], p);
-            bench.digestSigned(slots[SECRET], HASH_START, slots, how);
+            bench.digestSigned(slots[SECRET], Parameters.HASH_START, slots, how);
             drawMaskSeed(slots[SECRET], slots[RANDOM]);
             for (int tried = 0; tried < MOST_TRIES; tried++) {
                 drawMasks(p, tried * p.l);
@@ -899,7 +916,7 @@ public final class ModuleSigner {
 
         private void readSecret(Bytes secret, Parameters p) {
             bench.sampler.matrix(secret, p, bench.matrix);
-            int place = Bench.SMALL_START;
+            int place = Parameters.SMALL_START;
             for (int i = 0; i < p.l; i++) {
                 readMirrored(secret, place, p.smallBits, p.e, bench.secrets[i]);
                 place += Ring.packedSize(p.smallBits);
@@ -909,8 +926,8 @@ public final class ModuleSigner {
                 place += Ring.packedSize(p.smallBits);
             }
             for (int i = 0; i < p.k; i++) {
-                readMirrored(secret, place, Bench.DROPPED_BITS, 1 << Bench.DROPPED_BITS - 1, bench.drops[i]);
-                place += Ring.packedSize(Bench.DROPPED_BITS);
+                readMirrored(secret, place, Parameters.DROPPED_BITS, Parameters.DROPPED_MOST, drops[i]);
+                place += Ring.packedSize(Parameters.DROPPED_BITS);
             }
         }
 
@@ -933,8 +950,8 @@ public final class ModuleSigner {
         private void drawMasks(Parameters p, int number) {
             for (int i = 0; i < p.l; i++) {
                 bench.sampler.takeNumbered(maskSeed, 0, number + i);
-                bench.sampler.mask(p, bench.packed, bench.masks[i]);
-                Ring.copyRow(bench.masks[i], bench.answers[i]);
+                bench.sampler.mask(p, bench.packed, masks[i]);
+                Ring.copyRow(masks[i], bench.answers[i]);
                 bench.ring.forward(bench.answers[i]);
             }
         }
@@ -955,7 +972,7 @@ public final class ModuleSigner {
         private boolean answersHide(Parameters p) {
             for (int i = 0; i < p.l; i++) {
                 bench.multiplyBall(bench.secrets[i]);
-                Ring.copyRow(bench.masks[i], bench.answers[i]);
+                Ring.copyRow(masks[i], bench.answers[i]);
                 Ring.addTo(bench.answers[i], bench.product);
                 if (!Ring.within(bench.answers[i], p.g1 - p.bound)) {
                     return false;
@@ -990,7 +1007,7 @@ public final class ModuleSigner {
             hints.clear();
             ends.clear();
             for (int i = 0; i < p.k; i++) {
-                bench.multiplyBall(bench.drops[i]);
+                bench.multiplyBall(drops[i]);
                 if (!Ring.within(bench.product, p.g2) || !addHints(bench.images[i], p)) {
                     return false;
                 }
@@ -1118,9 +1135,10 @@ public final class ModuleSigner {
 
         /** product = NTT(8192 T1 i). */
         private void readTop(Bytes publicKey, int i) {
-            publicKey.readBits(SEED_SIZE + i * Ring.packedSize(Bench.TOP_BITS), Bench.TOP_BITS, bench.product);
+            int place = SEED_SIZE + i * Ring.packedSize(Parameters.TOP_BITS);
+            publicKey.readBits(place, Parameters.TOP_BITS, bench.product);
             for (int j = 0; j < Ring.N; j++) {
-                bench.product[j] <<= Bench.DROPPED_BITS;
+                bench.product[j] <<= Parameters.DROPPED_BITS;
             }
             bench.ring.forward(bench.product);
         }
