@@ -2,7 +2,10 @@ import java.security.MessageDigest;
 import java.security.NoSuchAlgorithmException;
 import java.util.Random;
 
-/** What all tests share: counting wrong answers, and moving whole rows of bytes in and out of slots. */
+/**
+ * What all tests share: counting wrong answers, and moving whole rows of bytes in and out of slots. To read all slots
+ * takes more than the 512 calls for which the document promises anything: that it works is this program's own promise.
+ */
 final class Check {
     static final int RANDOM = 0;
     static final int PUBLIC = 1;
@@ -56,7 +59,9 @@ final class Check {
         isTrue(what + " changes nothing", before.equals(state(x)));
     }
 
+    /** Any number of bytes up to 8192; the tape's own are dropped, and it takes 8180 at most. */
     static void load(ModuleSigner x, int slot, byte[] bytes) {
+        x.end(slot, 0);
         for (int i = 0; i < bytes.length && i < 8180; i += 20) {
             x.feed(intAt(bytes, i), intAt(bytes, i + 4), intAt(bytes, i + 8), intAt(bytes, i + 12),
                 intAt(bytes, i + 16));

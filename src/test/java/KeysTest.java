@@ -42,7 +42,8 @@ public final class KeysTest {
         }
         x.feed(1, 2, 3, 4, 5);
         x.dsaKeys(1);
-        for (int slot : new int[] {Check.RANDOM, Check.MESSAGE, Check.CONTEXT, Check.PACKET, Check.SHARED, Check.SPARE}) {
+        int[] others = {Check.RANDOM, Check.MESSAGE, Check.CONTEXT, Check.PACKET, Check.SHARED, Check.SPARE};
+        for (int slot : others) {
             byte[] due = Check.noise(slot == 0 ? 32 : 1000 + slot, slot);
             Check.same("slot " + slot + " stays", Check.hex(Check.read(x, slot)), Check.hex(due));
         }
