@@ -1,3 +1,6 @@
+import java.util.Arrays;
+import java.util.Random;
+
 /** Promise 11: dsaSign. The marks are of an implementation in another language, checked against OpenSSL's. */
 public final class SignTest {
     /** Set, seed of the key, how, whether there is a RANDOM, sizes of CONTEXT and MESSAGE, tries, mark of PACKET. */
@@ -59,9 +62,52 @@ public final class SignTest {
         {2, -1, 1, "4c87e12291b3021f"}
     };
 
+    private static final int MADE = 0;
+    private static final int ZEROS = 1;
+    private static final int FAR_IN_ONE = 2;
+    private static final int FAR_IN_TWO = 3;
+
+    /**
+     * Where a limit decides which try holds: kind of SECRET, set, number that is the message, tries, mark of PACKET.
+     * Each was found by moving the limit by one and looking for the first number at which that shows.
+     */
+    private static final Object[][] LIMITS = {
+        // LOW is less by 1 where HIGH would be M, and only so is g2 - B or more without its sign.
+        {MADE, 0, 13984, 10, "e198dbe83df86177"},
+        {MADE, 1, 2684, 6, "15c30dda4614526e"},
+        {MADE, 2, 802, 4, "ec66b027ae57c8d2"},
+        // LOW is g2 - B.
+        {MADE, 0, 721, 5, "5f9ff0a9d9b5a577"},
+        {MADE, 1, 267, 18, "afe9e21e1472ca38"},
+        {MADE, 2, 203, 2, "ce90eef36a588fcd"},
+        // LOW is B - g2.
+        {MADE, 0, 22, 4, "0bc019fa9216996f"},
+        {MADE, 1, 62, 21, "830a262dafc09706"},
+        {MADE, 2, 224, 19, "e8d789f965ab2b8a"},
+        // |Z i| is g1 - B.
+        {MADE, 0, 170, 7, "26fdfa5a5f3f4c37"},
+        {MADE, 1, 164, 18, "cce83bb79d576f3f"},
+        {MADE, 2, 550, 9, "571f4690922398b4"},
+        // |Z i| is one below that.
+        {MADE, 0, 9, 3, "455cbac778640f51"},
+        {MADE, 1, 280, 4, "1d5d5ec762682fb1"},
+        {MADE, 2, 174, 5, "3fef121baaa17bf9"},
+        // There are just w hints.
+        {ZEROS, 0, 1, 7, "04544fe6cbcdb76f"},
+        {ZEROS, 1, 26, 1, "c02b53f6d038f3ae"},
+        {ZEROS, 2, 99, 1, "4f369021dbd79e6a"},
+        // |b T0 i| is above g2, and just g2; in the other sets it can't be.
+        {FAR_IN_ONE, 0, 12, 6, "93690d8ecdc6b49a"},
+        {FAR_IN_ONE, 0, 36, 7, "94f8d294f022a7c0"},
+        {FAR_IN_TWO, 0, 2540, 5, "6760765180c03181"}
+    };
+
     public static void main(String[] args) {
         for (Object[] row : KNOWN) {
             knownSignature(row);
+        }
+        for (Object[] row : LIMITS) {
+            limit(row);
         }
         for (Object[] row : ODD_SECRETS) {
             oddSecret(row);
@@ -105,22 +151,51 @@ public final class SignTest {
         Check.same("odd SECRET " + fill + " of set " + set + ": PACKET", Check.mark(x, Check.PACKET), row[3]);
     }
 
-    /** A SECRET whose T0 is as far out as it can be, so that there are nearly always too many hints. */
-    private static byte[] wildSecret(int set, long seed) {
+    private static void limit(Object[] row) {
+        int set = (int) row[1];
+        int number = (int) row[2];
+        ModuleSigner x = new ModuleSigner();
+        loadSecret(x, (int) row[0], set);
+        Check.load(x, Check.MESSAGE, new byte[] {0, 0, (byte) (number >> 8), (byte) number});
+        Check.same("limit in set " + set + ", message " + number, x.dsaSign(set, -1), row[3]);
+        Check.same("limit in set " + set + ", message " + number + ": PACKET", Check.mark(x, Check.PACKET), row[4]);
+    }
+
+    private static void loadSecret(ModuleSigner x, int kind, int set) {
+        if (kind == MADE) {
+            Check.load(x, Check.RANDOM, Check.noise(32, 1));
+            x.dsaKeys(set);
+            x.resize(Check.RANDOM, 0);
+        } else if (kind == ZEROS) {
+            x.resize(Check.SECRET, Check.SECRET_SIZES[set]);
+        } else if (kind == FAR_IN_ONE) {
+            Check.load(x, Check.SECRET, farSecret(set, 1, 1, 4096));
+        } else {
+            Check.load(x, Check.SECRET, farSecret(set, 1, 2, 3072));
+        }
+    }
+
+    /** A SECRET of noise, but T0 is far out, either way, all over its first polynomials, and 0 in the others. */
+    private static byte[] farSecret(int set, long seed, int polynomials, int far) {
         int[] rows = {4, 6, 8};
         int[] starts = {128 + 32 * 3 * 8, 128 + 32 * 4 * 11, 128 + 32 * 3 * 15};
         byte[] secret = new byte[Check.SECRET_SIZES[set]];
-        java.util.Random random = new java.util.Random(seed);
+        Random random = new Random(seed);
         random.nextBytes(secret);
-        java.util.Arrays.fill(secret, starts[set], secret.length, (byte) 0);
+        Arrays.fill(secret, starts[set], secret.length, (byte) 0);
         for (int i = 0; i < 256 * rows[set]; i++) {
-            if (random.nextBoolean()) {
-                for (int bit = 13 * i; bit < 13 * i + 13; bit++) {
-                    secret[starts[set] + bit / 8] |= (byte) (1 << bit % 8);
-                }
+            int drop = i >= 256 * polynomials ? 0 : random.nextBoolean() ? Math.max(-far, -4095) : far;
+            for (int j = 0; j < 13; j++) {
+                int bit = 13 * i + j;
+                secret[starts[set] + bit / 8] |= (byte) ((4096 - drop >> j & 1) << bit % 8);
             }
         }
         return secret;
+    }
+
+    /** There are nearly always too many hints. */
+    private static byte[] wildSecret(int set, long seed) {
+        return farSecret(set, seed, 8, 4096);
     }
 
     private static void lastTryHolds() {

@@ -219,6 +219,8 @@ public final class VerifyTest {
         int last = ROWS[set] - 1;
         // Counts as pairs: from which polynomial on, how many. Then the places.
         refusesHints(set, "a last count above w", new int[][] {{last, most + 1}}, rising(most));
+        // Here the places rise even over the first count, which stands behind them.
+        refusesHints(set, "all counts above w", new int[][] {{0, most + 1}}, rising(most));
         refusesHints(set, "a last count of 255", new int[][] {{last, 255}}, rising(most));
         refusesHints(set, "a middle count above w", new int[][] {{1, most + 1}, {2, most}}, rising(most));
         refusesHints(set, "a count that falls", new int[][] {{last - 1, 5}, {last, 3}}, rising(3));
