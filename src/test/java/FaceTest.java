@@ -40,10 +40,6 @@ public final class FaceTest {
             int modifiers = inside.getModifiers();
             Check.isTrue("class " + inside.getSimpleName() + " is static and not public", Modifier.isStatic(modifiers)
                 && !Modifier.isPublic(modifiers) && !Modifier.isProtected(modifiers));
-            for (Field field : inside.getDeclaredFields()) {
-                Check.isTrue("a static field is final: " + field.getName(),
-                    !Modifier.isStatic(field.getModifiers()) || Modifier.isFinal(field.getModifiers()));
-            }
         }
         Check.finish("FaceTest");
     }
