@@ -1,4 +1,4 @@
-/** Promise 10: dsaKeys. The marks are of an implementation in another language, checked against OpenSSL's. */
+/** Promise 10: dsaKeys. The marks are of an implementation in Python that agrees with OpenSSL. */
 public final class KeysTest {
     private static final String[][] MARKS = {
         {"eb4e7302842153b0", "0f9086044d77b6d6", "62c4f1b3164db7fa", "6433074c5ffc9e0f", "9f107644c1084526",

@@ -1,7 +1,7 @@
 import java.util.Arrays;
 import java.util.Random;
 
-/** Promise 11: dsaSign. The marks are of an implementation in another language, checked against OpenSSL's. */
+/** Promise 11: dsaSign. The marks are of an implementation in Python that agrees with OpenSSL. */
 public final class SignTest {
     /** Set, seed of the key, how, whether there is a RANDOM, sizes of CONTEXT and MESSAGE, tries, mark of PACKET. */
     private static final Object[][] KNOWN = {

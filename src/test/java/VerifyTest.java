@@ -1,6 +1,6 @@
 import java.util.Arrays;
 
-/** Promise 12: dsaVerify. The marks are of an implementation in another language, checked against OpenSSL's. */
+/** Promise 12: dsaVerify. The marks are of an implementation in Python that agrees with OpenSSL. */
 public final class VerifyTest {
     private static final int[] ROWS = {4, 6, 8};
     private static final int[] COLUMNS = {4, 5, 7};
