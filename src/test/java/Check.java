@@ -1,11 +1,9 @@
 import java.security.MessageDigest;
 import java.security.NoSuchAlgorithmException;
+import java.util.Arrays;
 import java.util.Random;
 
-/**
- * What all tests share: counting wrong answers, and moving whole rows of bytes in and out of slots. To read all slots
- * takes more than the 512 calls for which the document promises anything: that it works is this program's own promise.
- */
+/** What all tests share: names, counting wrong answers, and rows of bytes. */
 final class Check {
     static final int RANDOM = 0;
     static final int PUBLIC = 1;
@@ -17,6 +15,9 @@ final class Check {
     static final int SPARE = 7;
     static final int SLOTS = 8;
 
+    static final int LEAST = Integer.MIN_VALUE;
+    static final int GREATEST = Integer.MAX_VALUE;
+
     static final int[] PUBLIC_SIZES = {1312, 1952, 2592};
     static final int[] SECRET_SIZES = {2560, 4032, 4896};
     static final int[] PACKET_SIZES = {2420, 3309, 4627};
@@ -27,7 +28,7 @@ final class Check {
     private Check() {
     }
 
-    /** One call of the face, its answer as a text. */
+    /** One call of the face. */
     interface Call {
         Object run();
     }
@@ -43,6 +44,18 @@ final class Check {
         same(what, got, true);
     }
 
+    static void bytes(String what, byte[] got, byte[] due) {
+        if (!Arrays.equals(got, due)) {
+            wrong++;
+            System.out.println(what + ": " + got.length + " bytes " + head(got) + ", due are " + due.length + " bytes "
+                + head(due) + ", and they part at " + Arrays.mismatch(got, due));
+        }
+    }
+
+    private static String head(byte[] bytes) {
+        return bytes.length <= 32 ? hex(bytes) : hex(Arrays.copyOf(bytes, 32)) + "..";
+    }
+
     /** The answer of a call, or the simple name of what it throws. */
     static String answer(Call call) {
         try {
@@ -52,52 +65,11 @@ final class Check {
         }
     }
 
-    /** The call throws just that, and every slot is as it was. */
-    static void refuses(ModuleSigner x, String what, Call call, Class<? extends RuntimeException> due) {
-        String before = state(x);
+    /** "A call that throws changes nothing": it throws just that, and every slot and the tape are as they were. */
+    static void refuses(Player x, String what, Call call, Class<? extends RuntimeException> due) {
+        byte[][] before = x.state();
         same(what, answer(call), due.getSimpleName());
-        isTrue(what + " changes nothing", before.equals(state(x)));
-    }
-
-    /** Any number of bytes up to 8192; the tape's own are dropped, and it takes 8180 at most. */
-    static void load(ModuleSigner x, int slot, byte[] bytes) {
-        x.end(slot, 0);
-        for (int i = 0; i < bytes.length && i < 8180; i += 20) {
-            x.feed(intAt(bytes, i), intAt(bytes, i + 4), intAt(bytes, i + 8), intAt(bytes, i + 12),
-                intAt(bytes, i + 16));
-        }
-        x.end(slot, Math.min(bytes.length, 8180));
-        x.resize(slot, bytes.length);
-        for (int i = 8180; i < bytes.length; i++) {
-            x.alter(slot, i, bytes[i] & 255);
-        }
-    }
-
-    private static int intAt(byte[] bytes, int i) {
-        int value = 0;
-        for (int j = i; j < i + 4; j++) {
-            value = value << 8 | (j < bytes.length ? bytes[j] & 255 : 0);
-        }
-        return value;
-    }
-
-    static byte[] read(ModuleSigner x, int slot) {
-        byte[] bytes = new byte[x.length(slot)];
-        for (int i = 0; i < bytes.length; i += 8) {
-            long word = x.word(slot, i);
-            for (int j = 0; j < 8 && i + j < bytes.length; j++) {
-                bytes[i + j] = (byte) (word >>> 56 - 8 * j);
-            }
-        }
-        return bytes;
-    }
-
-    static String state(ModuleSigner x) {
-        StringBuilder all = new StringBuilder();
-        for (int slot = 0; slot < SLOTS; slot++) {
-            all.append(hex(read(x, slot))).append('/');
-        }
-        return all.toString();
+        isTrue(what + ": nothing changes", Arrays.deepEquals(before, x.state()));
     }
 
     static String hex(byte[] bytes) {
@@ -108,10 +80,10 @@ final class Check {
         return text.toString();
     }
 
-    /** The first 16 hexadecimal digits of SHA-256 of a slot: enough to know it again. */
-    static String mark(ModuleSigner x, int slot) {
+    /** The first 16 hexadecimal digits of SHA-256: enough to know a row of bytes again. */
+    static String mark(byte[] bytes) {
         try {
-            return hex(MessageDigest.getInstance("SHA-256").digest(read(x, slot))).substring(0, 16);
+            return hex(MessageDigest.getInstance("SHA-256").digest(bytes)).substring(0, 16);
         } catch (NoSuchAlgorithmException e) {
             throw new IllegalStateException(e);
         }
@@ -129,6 +101,22 @@ final class Check {
     static byte[] noise(int n, long seed) {
         byte[] bytes = new byte[n];
         new Random(seed).nextBytes(bytes);
+        return bytes;
+    }
+
+    /** A number as the first four bytes of n, the highest first. */
+    static byte[] first(int n, int number) {
+        byte[] bytes = new byte[n];
+        for (int i = 0; i < 4; i++) {
+            bytes[i] = (byte) (number >> 24 - 8 * i);
+        }
+        return bytes;
+    }
+
+    /** A number as the last four bytes of n, the highest first. */
+    static byte[] last(int n, int number) {
+        byte[] bytes = new byte[n];
+        System.arraycopy(first(4, number), 0, bytes, n - 4, 4);
         return bytes;
     }
 

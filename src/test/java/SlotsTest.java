@@ -1,215 +1,331 @@
-/** Promises 1 to 9: a new object, the tape and the slots. */
+/** Promises 4 to 9: copy, resize, alter, length, word and same, with "SLOTS 0 .. 7 hold BYTES, at most 8192 each". */
 public final class SlotsTest {
+    private static final int[] NO_SLOTS = {-1, 8, 9, 255, 256, Check.LEAST, Check.GREATEST};
+
     public static void main(String[] args) {
-        newObject();
-        feed();
-        feedUpToTheLimit();
-        end();
-        endTakesTheFirstAndDropsTheRest();
-        copy();
-        resize();
-        alter();
-        length();
-        word();
-        same();
-        objectsShareNothing();
+        copyMakesTheSame();
+        copyAtTheLimits();
+        copyHidesWhatWasThere();
+        copyRefuses();
+        resizeKeepsTheFirst();
+        resizeAtTheLimits();
+        resizeRefuses();
+        alterXors();
+        alterAtTheLimits();
+        alterRefuses();
+        lengthOfEach();
+        lengthRefuses();
+        wordHasTheHighestFirst();
+        wordAtTheEnd();
+        wordOfAFullSlot();
+        wordRefuses();
+        sameAndNotSame();
+        sameAtTheLimits();
+        sameRefuses();
         Check.finish("SlotsTest");
     }
 
-    private static void newObject() {
-        ModuleSigner x = new ModuleSigner();
-        for (int i = 0; i < Check.SLOTS; i++) {
-            Check.same("new: length " + i, x.length(i), 0);
-        }
-        Check.refuses(x, "new: the tape is empty", () -> x.end(0, 1), IndexOutOfBoundsException.class);
-        Check.same("new: end of nothing", x.end(0, 0), 0);
-    }
+    // Promise 4
 
-    private static void feed() {
-        ModuleSigner x = new ModuleSigner();
-        Check.same("feed once", x.feed(0x01020304, 0x80ff7f00, -1, 0, Integer.MIN_VALUE), 20);
-        Check.same("feed twice", x.feed(0x15161718, 0, 0, 0, 0x191a1b1c), 40);
-        x.end(3, 40);
-        Check.same("feed: the bytes", Check.hex(Check.read(x, 3)),
-            "0102030480ff7f00ffffffff00000000800000001516171800000000000000000000000019" + "1a1b1c");
-    }
-
-    private static void feedUpToTheLimit() {
-        ModuleSigner x = new ModuleSigner();
-        for (int i = 1; i <= 409; i++) {
-            Check.same("feed " + i, x.feed(i, i, i, i, i), 20 * i);
-        }
-        for (int i = 0; i < 2; i++) {
-            Check.refuses(x, "feed over the limit", () -> x.feed(1, 2, 3, 4, 5), IndexOutOfBoundsException.class);
-        }
-        Check.refuses(x, "the tape has not 8181", () -> x.end(0, 8181), IndexOutOfBoundsException.class);
-        Check.refuses(x, "the tape has not 8192", () -> x.end(0, 8192), IndexOutOfBoundsException.class);
-        Check.same("end of a full tape", x.end(0, 8180), 8180);
-        Check.same("the last of a full tape", x.word(0, 8176), 409L << 32);
-        Check.same("feed after end", x.feed(7, 7, 7, 7, 7), 20);
-    }
-
-    private static void end() {
-        ModuleSigner x = new ModuleSigner();
-        x.feed(1, 2, 3, 4, 5);
-        Check.refuses(x, "end: slot 8", () -> x.end(8, 1), IllegalArgumentException.class);
-        Check.refuses(x, "end: slot -1", () -> x.end(-1, 1), IllegalArgumentException.class);
-        Check.refuses(x, "end: n -1", () -> x.end(0, -1), IllegalArgumentException.class);
-        Check.refuses(x, "end: n 8193", () -> x.end(0, 8193), IllegalArgumentException.class);
-        Check.refuses(x, "end: the slot comes first", () -> x.end(8, 21), IllegalArgumentException.class);
-        Check.refuses(x, "end: n least", () -> x.end(0, Integer.MIN_VALUE), IllegalArgumentException.class);
-        Check.refuses(x, "end: n greatest", () -> x.end(0, Integer.MAX_VALUE), IllegalArgumentException.class);
-        Check.refuses(x, "end: n 21", () -> x.end(0, 21), IndexOutOfBoundsException.class);
-        Check.same("the tape stayed", x.feed(6, 7, 8, 9, 10), 40);
-        Check.same("end", x.end(7, 40), 40);
-        Check.same("end: the bytes", x.word(7, 36), 10L << 32);
-    }
-
-    private static void endTakesTheFirstAndDropsTheRest() {
-        ModuleSigner x = new ModuleSigner();
-        x.feed(0x01020304, 0x05060708, 0x090a0b0c, 0, 0);
-        Check.same("end of five", x.end(2, 5), 5);
-        Check.same("five bytes", Check.hex(Check.read(x, 2)), "0102030405");
-        Check.refuses(x, "the rest is gone", () -> x.end(2, 1), IndexOutOfBoundsException.class);
-        Check.same("a new tape", x.feed(0x11121314, 0, 0, 0, 0), 20);
-        Check.same("end of two", x.end(2, 2), 2);
-        Check.same("two bytes", Check.hex(Check.read(x, 2)), "1112");
-        x.feed(1, 1, 1, 1, 1);
-        Check.same("end of none", x.end(2, 0), 0);
-        Check.same("none", x.length(2), 0);
-        Check.refuses(x, "end of none drops the tape", () -> x.end(2, 1), IndexOutOfBoundsException.class);
-    }
-
-    private static void copy() {
-        ModuleSigner x = new ModuleSigner();
-        Check.load(x, 1, Check.ramp(100, 3, 7));
-        Check.load(x, 6, Check.ramp(300, 1, 1));
-        Check.same("copy", x.copy(1, 6), 100);
-        Check.isTrue("copy: the same", x.same(1, 6));
-        Check.same("copy: the length", x.length(6), 100);
+    private static void copyMakesTheSame() {
+        Player x = new Player();
+        x.load(1, Check.ramp(100, 3, 7));
+        x.load(6, Check.ramp(300, 1, 1));
+        Check.same("copy over a longer one", x.copy(1, 6), 100);
+        Check.bytes("copy over a longer one: to", x.read(6), Check.ramp(100, 3, 7));
+        Check.bytes("copy over a longer one: from", x.read(1), Check.ramp(100, 3, 7));
+        x.load(2, Check.ramp(7, 9, 9));
+        Check.same("copy over a shorter one", x.copy(1, 2), 100);
+        Check.bytes("copy over a shorter one: to", x.read(2), Check.ramp(100, 3, 7));
         x.alter(6, 0, 255);
         Check.same("a copy is its own", x.word(1, 0), 0x030a11181f262d34L);
-        Check.same("copy on itself", x.copy(1, 1), 100);
-        Check.same("copy on itself: the bytes", Check.hex(Check.read(x, 1)), Check.hex(Check.ramp(100, 3, 7)));
-        Check.same("copy of none", x.copy(0, 1), 0);
-        Check.same("copy of none: the length", x.length(1), 0);
-        Check.load(x, 5, Check.noise(8192, 4));
-        Check.same("copy of all", x.copy(5, 4), 8192);
-        Check.isTrue("copy of all: the same", x.same(4, 5));
-        int[][] bad = {{-1, 0}, {8, 0}, {0, -1}, {0, 8}, {Integer.MIN_VALUE, 0}, {0, Integer.MAX_VALUE}};
-        for (int[] b : bad) {
-            Check.refuses(x, "copy " + b[0] + " " + b[1], () -> x.copy(b[0], b[1]), IllegalArgumentException.class);
-        }
+        x.alter(1, 1, 255);
+        Check.same("and so is what it is of", x.word(6, 0), 0xfc0a11181f262d34L);
     }
 
-    private static void resize() {
-        ModuleSigner x = new ModuleSigner();
-        Check.load(x, 4, Check.ramp(20, 1, 1));
-        Check.same("resize to 5", x.resize(4, 5), 20);
-        Check.same("resize to 9", x.resize(4, 9), 5);
-        Check.same("what was cut off stays off", Check.hex(Check.read(x, 4)), "010203040500000000");
-        Check.same("resize to all", x.resize(4, 8192), 9);
-        Check.same("the last byte", x.word(4, 8191), 0L);
-        Check.same("resize to the same", x.resize(4, 8192), 8192);
-        Check.same("resize to none", x.resize(4, 0), 8192);
-        Check.same("resize from none", x.resize(4, 8), 0);
-        Check.same("all zeros", x.word(4, 0), 0L);
-        // A shorter row that comes into a slot must not show what stood behind it before.
-        Check.load(x, 3, Check.ramp(64, 200, 1));
+    /** From 0 to 7 and back, to itself, none, and all 8192. */
+    private static void copyAtTheLimits() {
+        Player x = new Player();
+        x.load(0, Check.ramp(9, 1, 1));
+        Check.same("copy 0 to 7", x.copy(0, 7), 9);
+        x.resize(0, 0);
+        Check.same("copy 7 to 0", x.copy(7, 0), 9);
+        Check.bytes("there and back", x.read(0), Check.ramp(9, 1, 1));
+        Check.same("copy on itself", x.copy(7, 7), 9);
+        Check.bytes("copy on itself: the bytes", x.read(7), Check.ramp(9, 1, 1));
+        Check.same("copy of none", x.copy(3, 7), 0);
+        Check.same("copy of none: the length", x.length(7), 0);
+        Check.same("copy of none on itself", x.copy(3, 3), 0);
+        Player y = new Player();
+        y.load(5, Check.noise(8192, 4));
+        Check.same("copy of all", y.copy(5, 4), 8192);
+        Check.bytes("copy of all: the bytes", y.read(4), Check.noise(8192, 4));
+        Check.same("copy of all on itself", y.copy(4, 4), 8192);
+        Check.isTrue("copy of all on itself: the bytes", y.same(4, 5));
+    }
+
+    /** "to becomes as from is": what stood behind does not come back. */
+    private static void copyHidesWhatWasThere() {
+        Player x = new Player();
+        x.load(3, Check.ramp(64, 200, 1));
+        x.load(4, Check.ramp(8, 1, 1));
         x.copy(4, 3);
+        Check.same("word over the end", x.word(3, 4), 0x0506070800000000L);
+        Check.refuses(x, "behind the end", () -> x.word(3, 8), IndexOutOfBoundsException.class);
         x.resize(3, 64);
-        Check.same("zeros behind a copy", Check.hex(Check.read(x, 3)), "00".repeat(64));
-        int[][] bad = {{-1, 0}, {8, 0}, {0, -1}, {0, 8193}, {0, Integer.MIN_VALUE}, {0, Integer.MAX_VALUE}};
-        for (int[] b : bad) {
-            Check.refuses(x, "resize " + b[0] + " " + b[1], () -> x.resize(b[0], b[1]), IllegalArgumentException.class);
+        Check.same("zeros behind", Check.hex(x.read(3)), "0102030405060708" + "00".repeat(56));
+    }
+
+    /** "from, to 0 .. 7." */
+    private static void copyRefuses() {
+        Player x = new Player();
+        x.load(0, Check.ramp(9, 1, 1));
+        x.feed(1, 2, 3, 4, 5);
+        for (int slot : NO_SLOTS) {
+            Check.refuses(x, "copy " + slot + " to 0", () -> x.copy(slot, 0), IllegalArgumentException.class);
+            Check.refuses(x, "copy 0 to " + slot, () -> x.copy(0, slot), IllegalArgumentException.class);
+            Check.refuses(x, "copy " + slot + " on itself", () -> x.copy(slot, slot), IllegalArgumentException.class);
         }
     }
 
-    private static void alter() {
-        ModuleSigner x = new ModuleSigner();
-        Check.load(x, 1, Check.ramp(20, 250, 1));
+    // Promise 5
+
+    private static void resizeKeepsTheFirst() {
+        Player x = new Player();
+        x.load(4, Check.ramp(20, 1, 1));
+        Check.same("resize to 5", x.resize(4, 5), 20);
+        Check.same("the first five", Check.hex(x.read(4)), "0102030405");
+        Check.same("resize to 9", x.resize(4, 9), 5);
+        Check.same("what was cut off stays off", Check.hex(x.read(4)), "010203040500000000");
+        x.alter(4, 8, 7);
+        Check.same("resize to 8", x.resize(4, 8), 9);
+        Check.same("resize to 9 again", x.resize(4, 9), 8);
+        Check.same("one byte that was cut off", Check.hex(x.read(4)), "010203040500000000");
+    }
+
+    /** "n 0 .. 8192": none, all, as many as there are, one more and one less. */
+    private static void resizeAtTheLimits() {
+        for (int slot : new int[] {0, 7}) {
+            Player x = new Player();
+            Check.same("none to none", x.resize(slot, 0), 0);
+            Check.same("none to one", x.resize(slot, 1), 0);
+            Check.same("one to all", x.resize(slot, 8192), 1);
+            Check.same("the last byte is there", x.alter(slot, 8191, 5), 5);
+            Check.same("all to all", x.resize(slot, 8192), 8192);
+            Check.same("and it stays", x.word(slot, 8191), 5L << 56);
+            Check.same("all to one less", x.resize(slot, 8191), 8192);
+            Check.refuses(x, "the last byte is gone", () -> x.word(slot, 8191), IndexOutOfBoundsException.class);
+            Check.same("one less to all", x.resize(slot, 8192), 8191);
+            Check.bytes("all zeros", x.read(slot), new byte[8192]);
+            Check.same("all to none", x.resize(slot, 0), 8192);
+            Check.same("none", x.length(slot), 0);
+            Check.same("none to eight", x.resize(slot, 8), 0);
+            Check.same("all zeros again", x.word(slot, 0), 0L);
+        }
+    }
+
+    private static void resizeRefuses() {
+        Player x = new Player();
+        x.load(0, Check.ramp(9, 1, 1));
+        x.feed(1, 2, 3, 4, 5);
+        for (int slot : NO_SLOTS) {
+            Check.refuses(x, "resize slot " + slot, () -> x.resize(slot, 5), IllegalArgumentException.class);
+            Check.refuses(x, "resize " + slot + " to -1", () -> x.resize(slot, -1), IllegalArgumentException.class);
+        }
+        for (int n : new int[] {-1, 8193, Check.LEAST, Check.GREATEST}) {
+            Check.refuses(x, "resize to " + n, () -> x.resize(0, n), IllegalArgumentException.class);
+            Check.refuses(x, "resize slot 7 to " + n, () -> x.resize(7, n), IllegalArgumentException.class);
+        }
+    }
+
+    // Promise 6
+
+    private static void alterXors() {
+        Player x = new Player();
+        x.load(1, Check.ramp(20, 250, 1));
         Check.same("alter", x.alter(1, 0, 15), 245);
-        Check.same("alter by 0", x.alter(1, 19, 0), 13);
-        Check.same("alter by 255", x.alter(1, 19, 255), 242);
-        Check.same("alter back", x.alter(1, 19, 255), 13);
-        Check.same("only these", x.word(1, 0), 0xf5fbfcfdfeff0001L);
-        Check.refuses(x, "alter 20", () -> x.alter(1, 20, 1), IndexOutOfBoundsException.class);
-        Check.refuses(x, "alter -1", () -> x.alter(1, -1, 1), IndexOutOfBoundsException.class);
-        Check.refuses(x, "alter least", () -> x.alter(1, Integer.MIN_VALUE, 1), IndexOutOfBoundsException.class);
-        Check.refuses(x, "alter greatest", () -> x.alter(1, Integer.MAX_VALUE, 1), IndexOutOfBoundsException.class);
-        Check.refuses(x, "alter none", () -> x.alter(0, 0, 1), IndexOutOfBoundsException.class);
+        Check.same("alter by 1", x.alter(1, 3, 1), 252);
+        Check.same("alter by 128", x.alter(1, 4, 128), 126);
+        Check.same("only these", x.word(1, 0), 0xf5fbfcfc7eff0001L);
+        Check.same("alter back", x.alter(1, 4, 128), 254);
+    }
+
+    /** v 0 and 255; the first byte and the last, of a slot and of a full one. */
+    private static void alterAtTheLimits() {
+        Player x = new Player();
+        x.load(1, Check.ramp(20, 250, 1));
+        Check.same("alter the last by 0", x.alter(1, 19, 0), 13);
+        Check.same("alter the last by 255", x.alter(1, 19, 255), 242);
+        Check.same("alter the first by 255", x.alter(1, 0, 255), 5);
+        Check.same("to 0", x.alter(1, 0, 5), 0);
+        Check.same("to 255", x.alter(1, 0, 255), 255);
+        Check.refuses(x, "alter behind the last", () -> x.alter(1, 20, 1), IndexOutOfBoundsException.class);
+        Check.refuses(x, "alter before the first", () -> x.alter(1, -1, 1), IndexOutOfBoundsException.class);
+        for (int slot : new int[] {0, 7}) {
+            x.resize(slot, 8192);
+            Check.same("alter byte 8191", x.alter(slot, 8191, 255), 255);
+            Check.same("it is there", x.word(slot, 8184), 255L);
+            Check.refuses(x, "alter byte 8192", () -> x.alter(slot, 8192, 1), IndexOutOfBoundsException.class);
+        }
         x.resize(1, 3);
-        Check.refuses(x, "alter what was cut off", () -> x.alter(1, 3, 1), IndexOutOfBoundsException.class);
-        int[][] bad = {{-1, 0, 0}, {8, 0, 0}, {1, 0, -1}, {1, 0, 256}, {1, 99, 256}, {8, 99, 0}, {1, -1, -1},
-            {1, 0, Integer.MIN_VALUE}, {1, 0, Integer.MAX_VALUE}};
-        for (int[] b : bad) {
-            Check.refuses(x, "alter " + b[0] + " " + b[1] + " " + b[2], () -> x.alter(b[0], b[1], b[2]),
-                IllegalArgumentException.class);
+        Check.same("alter before the cut", x.alter(1, 2, 0), 252);
+        Check.refuses(x, "alter behind the cut", () -> x.alter(1, 3, 1), IndexOutOfBoundsException.class);
+        Check.refuses(x, "alter by 0 behind the cut", () -> x.alter(1, 3, 0), IndexOutOfBoundsException.class);
+    }
+
+    /** "v 0 .. 255; there is none: IndexOutOfBoundsException": the numbers come first. */
+    private static void alterRefuses() {
+        Player x = new Player();
+        x.load(1, Check.ramp(20, 250, 1));
+        x.feed(1, 2, 3, 4, 5);
+        for (int i : new int[] {20, -1, 8191, 8192, Check.LEAST, Check.GREATEST}) {
+            Check.refuses(x, "alter byte " + i, () -> x.alter(1, i, 1), IndexOutOfBoundsException.class);
+            Check.refuses(x, "alter byte " + i + " by 0", () -> x.alter(1, i, 0), IndexOutOfBoundsException.class);
+            Check.refuses(x, "alter byte " + i + " by 256", () -> x.alter(1, i, 256), IllegalArgumentException.class);
+            Check.refuses(x, "alter byte " + i + " of slot 8", () -> x.alter(8, i, 1), IllegalArgumentException.class);
+        }
+        Check.refuses(x, "alter byte 0 of none", () -> x.alter(0, 0, 1), IndexOutOfBoundsException.class);
+        for (int v : new int[] {-1, 256, 257, -256, Check.LEAST, Check.GREATEST}) {
+            Check.refuses(x, "alter by " + v, () -> x.alter(1, 0, v), IllegalArgumentException.class);
+            Check.refuses(x, "alter none by " + v, () -> x.alter(0, 0, v), IllegalArgumentException.class);
+        }
+        for (int slot : NO_SLOTS) {
+            Check.refuses(x, "alter slot " + slot, () -> x.alter(slot, 0, 1), IllegalArgumentException.class);
         }
     }
 
-    private static void length() {
-        ModuleSigner x = new ModuleSigner();
+    // Promise 7
+
+    private static void lengthOfEach() {
+        Player x = new Player();
+        int[] sizes = {0, 1, 2, 20, 255, 256, 8191, 8192};
         for (int i = 0; i < Check.SLOTS; i++) {
-            x.resize(i, 1000 + i);
+            x.resize(i, sizes[i]);
         }
         for (int i = 0; i < Check.SLOTS; i++) {
-            Check.same("length " + i, x.length(i), 1000 + i);
+            Check.same("length " + i, x.length(i), sizes[i]);
         }
-        for (int slot : new int[] {-1, 8, Integer.MIN_VALUE, Integer.MAX_VALUE}) {
+    }
+
+    private static void lengthRefuses() {
+        Player x = new Player();
+        x.load(0, Check.ramp(9, 1, 1));
+        x.feed(1, 2, 3, 4, 5);
+        for (int slot : NO_SLOTS) {
             Check.refuses(x, "length " + slot, () -> x.length(slot), IllegalArgumentException.class);
         }
     }
 
-    private static void word() {
-        ModuleSigner x = new ModuleSigner();
-        Check.load(x, 2, Check.ramp(20, 0xf1, 1));
+    // Promise 8
+
+    private static void wordHasTheHighestFirst() {
+        Player x = new Player();
+        x.load(2, Check.ramp(20, 0xf1, 1));
         Check.same("word 0", x.word(2, 0), 0xf1f2f3f4f5f6f7f8L);
-        Check.same("word 12", x.word(2, 12), 0xfdfeff0001020304L);
-        Check.same("word 13", x.word(2, 13), 0xfeff000102030400L);
-        Check.same("word 19", x.word(2, 19), 0x0400000000000000L);
-        x.resize(2, 10);
-        Check.same("word behind a cut", x.word(2, 8), 0xf9fa000000000000L);
-        Check.refuses(x, "word 10", () -> x.word(2, 10), IndexOutOfBoundsException.class);
-        Check.refuses(x, "word -1", () -> x.word(2, -1), IndexOutOfBoundsException.class);
-        Check.refuses(x, "word least", () -> x.word(2, Integer.MIN_VALUE), IndexOutOfBoundsException.class);
-        Check.refuses(x, "word greatest", () -> x.word(2, Integer.MAX_VALUE), IndexOutOfBoundsException.class);
-        Check.refuses(x, "word of none", () -> x.word(0, 0), IndexOutOfBoundsException.class);
-        Check.refuses(x, "word of slot 8", () -> x.word(8, 0), IllegalArgumentException.class);
-        Check.refuses(x, "word of slot -1", () -> x.word(-1, -1), IllegalArgumentException.class);
-        Check.load(x, 2, Check.ramp(8192, 1, 1));
-        Check.same("word at the very end", x.word(2, 8191), 0L);
-        Check.same("word before it", x.word(2, 8185), 0xfafbfcfdfeff0000L);
+        Check.same("word 1", x.word(2, 1), 0xf2f3f4f5f6f7f8f9L);
+        Check.same("word 7", x.word(2, 7), 0xf8f9fafbfcfdfeffL);
+        x.load(2, Check.ramp(8, 127, 0));
+        Check.same("all 127", x.word(2, 0), 0x7f7f7f7f7f7f7f7fL);
     }
 
-    private static void same() {
-        ModuleSigner x = new ModuleSigner();
-        Check.isTrue("two empty ones", x.same(0, 7));
-        Check.load(x, 1, Check.ramp(50, 9, 3));
-        Check.load(x, 2, Check.ramp(50, 9, 3));
-        Check.isTrue("equal ones", x.same(1, 2));
-        Check.isTrue("one and itself", x.same(1, 1));
-        x.alter(2, 49, 1);
-        Check.isTrue("the last differs", !x.same(1, 2));
-        x.alter(2, 49, 1);
-        x.alter(2, 0, 128);
-        Check.isTrue("the first differs", !x.same(2, 1));
-        x.alter(2, 0, 128);
-        x.resize(2, 51);
-        Check.isTrue("one has a zero more", !x.same(1, 2) && !x.same(2, 1));
-        Check.isTrue("one has none", !x.same(1, 0) && !x.same(0, 1));
-        int[][] bad = {{-1, 0}, {8, 0}, {0, -1}, {0, 8}, {8, 8}};
-        for (int[] b : bad) {
-            Check.refuses(x, "same " + b[0] + " " + b[1], () -> x.same(b[0], b[1]), IllegalArgumentException.class);
+    /** "zeros behind the end": from the last place with eight bytes to the last place. */
+    private static void wordAtTheEnd() {
+        Player x = new Player();
+        byte[] bytes = Check.ramp(20, 0xf1, 1);
+        x.load(2, bytes);
+        for (int i = 12; i < 20; i++) {
+            long due = 0;
+            for (int j = i; j < 20; j++) {
+                due |= (bytes[j] & 255L) << 8 * (7 - (j - i));
+            }
+            Check.same("word " + i + " of 20", x.word(2, i), due);
+        }
+        x.resize(2, 10);
+        Check.same("word 2 of 10", x.word(2, 2), 0xf3f4f5f6f7f8f9faL);
+        Check.same("word 8 of 10, where bytes were cut off", x.word(2, 8), 0xf9fa000000000000L);
+        Check.same("word 9 of 10", x.word(2, 9), 0xfa00000000000000L);
+        x.load(2, new byte[] {-2});
+        Check.same("word 0 of one byte", x.word(2, 0), 0xfe00000000000000L);
+    }
+
+    private static void wordOfAFullSlot() {
+        for (int slot : new int[] {0, 7}) {
+            Player x = new Player();
+            x.load(slot, Check.ramp(8192, 1, 1));
+            Check.same("word 8184", x.word(slot, 8184), 0xf9fafbfcfdfeff00L);
+            Check.same("word 8185", x.word(slot, 8185), 0xfafbfcfdfeff0000L);
+            x.alter(slot, 8191, 9);
+            Check.same("word 8191", x.word(slot, 8191), 9L << 56);
+            Check.refuses(x, "word 8192", () -> x.word(slot, 8192), IndexOutOfBoundsException.class);
         }
     }
 
-    private static void objectsShareNothing() {
-        ModuleSigner x = new ModuleSigner();
-        ModuleSigner y = new ModuleSigner();
+    /** "i is not one of the SLOT: IndexOutOfBoundsException". */
+    private static void wordRefuses() {
+        Player x = new Player();
+        x.load(2, Check.ramp(20, 0xf1, 1));
+        x.resize(2, 10);
         x.feed(1, 2, 3, 4, 5);
-        x.resize(3, 40);
-        Check.same("another's slot", y.length(3), 0);
-        Check.same("another's tape", y.feed(1, 2, 3, 4, 5), 20);
+        for (int i : new int[] {10, 11, 19, -1, -8, 8191, 8192, Check.LEAST, Check.GREATEST, Check.GREATEST - 7}) {
+            Check.refuses(x, "word " + i, () -> x.word(2, i), IndexOutOfBoundsException.class);
+            Check.refuses(x, "word " + i + " of slot 8", () -> x.word(8, i), IllegalArgumentException.class);
+        }
+        Check.refuses(x, "word 0 of none", () -> x.word(0, 0), IndexOutOfBoundsException.class);
+        for (int slot : NO_SLOTS) {
+            Check.refuses(x, "word of slot " + slot, () -> x.word(slot, 0), IllegalArgumentException.class);
+        }
+    }
+
+    // Promise 9
+
+    private static void sameAndNotSame() {
+        Player x = new Player();
+        x.load(1, Check.ramp(50, 9, 3));
+        x.load(2, Check.ramp(50, 9, 3));
+        Check.isTrue("equal ones", x.same(1, 2) && x.same(2, 1));
+        for (int i : new int[] {0, 1, 24, 48, 49}) {
+            for (int v : new int[] {1, 128}) {
+                x.alter(2, i, v);
+                Check.isTrue("byte " + i + " differs by " + v, !x.same(1, 2) && !x.same(2, 1));
+                x.alter(2, i, v);
+            }
+        }
+        Check.isTrue("equal again", x.same(1, 2));
+    }
+
+    /** None, one with itself, one that has one more, and all 8192. */
+    private static void sameAtTheLimits() {
+        Player x = new Player();
+        Check.isTrue("two empty ones", x.same(0, 7) && x.same(7, 0) && x.same(3, 3));
+        x.load(1, Check.ramp(50, 9, 3));
+        x.copy(1, 2);
+        Check.isTrue("one and itself", x.same(1, 1));
+        Check.isTrue("one and none", !x.same(1, 0) && !x.same(0, 1));
+        x.resize(2, 51);
+        Check.isTrue("one has a zero more", !x.same(1, 2) && !x.same(2, 1));
+        x.resize(2, 49);
+        Check.isTrue("one has one less", !x.same(1, 2) && !x.same(2, 1));
+        x.resize(1, 49);
+        Check.isTrue("what was cut off does not count", x.same(1, 2) && x.same(2, 1));
+        x.resize(3, 1);
+        Check.isTrue("a zero and none", !x.same(3, 0) && !x.same(0, 3));
+        x.resize(0, 8192);
+        x.resize(7, 8192);
+        Check.isTrue("two full ones", x.same(0, 7));
+        x.alter(7, 8191, 1);
+        Check.isTrue("the last of two full ones differs", !x.same(0, 7) && !x.same(7, 0));
+        x.resize(7, 8191);
+        Check.isTrue("a full one and one less", !x.same(0, 7) && !x.same(7, 0));
+    }
+
+    private static void sameRefuses() {
+        Player x = new Player();
+        x.load(0, Check.ramp(9, 1, 1));
+        x.feed(1, 2, 3, 4, 5);
+        for (int slot : NO_SLOTS) {
+            Check.refuses(x, "same " + slot + " and 0", () -> x.same(slot, 0), IllegalArgumentException.class);
+            Check.refuses(x, "same 0 and " + slot, () -> x.same(0, slot), IllegalArgumentException.class);
+            Check.refuses(x, "same " + slot + " and itself", () -> x.same(slot, slot), IllegalArgumentException.class);
+        }
     }
 }
