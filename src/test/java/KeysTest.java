@@ -234,6 +234,8 @@ public final class KeysTest {
             }
         }
         x.resize(Check.RANDOM, 32);
+        // No other slot has a size that dsaKeys asks for.
+        x.resize(Check.CONTEXT, 8192);
         Check.same("keys of 32 bytes", x.dsaKeys(2), Check.SECRET_SIZES[2]);
     }
 }
