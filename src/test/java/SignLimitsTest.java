@@ -11,8 +11,8 @@ import java.util.Random;
  * most 49 * 4096 = 200704 or 60 * 4096 = 245760, and g2 is 261888.
  * "at most 121, else ArithmeticException" of BALL: VerifyLimitsTest says why.
  * "After 814 of them: ArithmeticException" in set 1, just inside and just outside: even a T0 as far out as can be lets
- * one try in 80 hold there, so of two million SECRETS one would have try 814 as the first that holds, and none was met.
- * A SECRET for which no try holds is known and tested; in sets 0 and 2 both sides are.
+ * one try in some 75 hold there, so only one run in some millions would have try 814 as the first that holds, and none
+ * was met. A SECRET for which no try holds is known and tested; in sets 0 and 2 both sides are.
  */
 public final class SignLimitsTest {
     private static final int ANSWER = 0;
