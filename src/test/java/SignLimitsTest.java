@@ -5,6 +5,8 @@ import java.util.Random;
 /**
  * Promise 11: the limits of SIGN, from both sides. Each row is a message that a search has found: at one of its tries
  * something stands just at its limit. Out: nothing else is wrong with that try, and it is not taken. In: it is taken.
+ * (A message is its number in four bytes. The first two are 0, as how 0 has them with no CONTEXT: so OpenSSL could be
+ * asked to verify what is signed with a made key, and it did.)
  *
  * Boundaries that no run of calls reaches, or none that is known:
  * "a |b T0 i| is g2 or more" in sets 1 and 2: T0 is 4096 at most, and t coefficients of b are not 0, so |b T0 i| is at

@@ -13,7 +13,8 @@ import java.util.Arrays;
  * the ArithmeticException of SAMPLE in dsaSign and dsaVerify: KeysTest says why.
  */
 public final class VerifyLimitsTest {
-    private static final byte[] MESSAGE = {'a', 'b', 'c'};
+    /** As how 0 has the message "a" with no CONTEXT: so OpenSSL could be asked about these packets, and it agreed. */
+    private static final byte[] MESSAGE = {0, 0, 'a'};
     /** For each set the number at the start of C for which BALL takes the most bytes, and how many. */
     private static final int[][] FARTHEST_BALLS = {{1556876, 57}, {3305900, 72}, {5346288, 95}};
 
