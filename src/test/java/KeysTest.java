@@ -7,7 +7,8 @@
  * chance of 1 in 1024: about 1 polynomial in 2^256.
  * "(at most 481, else ArithmeticException)" of SMALL: fewer than 256 of 962 four bits would have to be below 9 (e 4):
  * about 1 polynomial in 2^256, too; or below 15 (e 2): 1 in 2^2054.
- * What is tested is the farthest that a search of a million polynomials or more has found.
+ * What is tested here is the farthest that a search of a million polynomials or more has found; LoweredLimitsTest goes
+ * over the limits themselves.
  */
 public final class KeysTest {
     private static final String[][] MARKS = {
@@ -112,11 +113,8 @@ public final class KeysTest {
     private static void mostTriples(int[] row) {
         byte[] random = Check.last(32, row[1]);
         byte[] stream = Reference.sampleStream(new Reference(row[0]).seeds(random), row[2], row[3]);
-        int taken = 0;
-        for (int filled = 0; filled < 256; taken++) {
-            filled += Reference.triple(stream, taken) < Reference.Q ? 1 : 0;
-        }
-        Check.same("set " + row[0] + ", number " + row[1] + " takes triples", taken, row[4]);
+        Check.same("set " + row[0] + ", number " + row[1] + " takes triples",
+            Reference.sample(stream, new int[256]), row[4]);
         madeAsDue(row[0], random);
     }
 

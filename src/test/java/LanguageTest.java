@@ -6,6 +6,11 @@ import java.nio.file.Files;
 import java.nio.file.Path;
 import java.util.ArrayList;
 import java.util.List;
+import java.util.Map;
+import java.util.Set;
+import java.util.TreeMap;
+import java.util.TreeSet;
+import java.util.regex.Matcher;
 import java.util.regex.Pattern;
 
 /** Those rules of LANGUAGE.md that can be read off the program's text or its classes. */
@@ -15,30 +20,58 @@ public final class LanguageTest {
     private static final int MOST_FIELDS = 20;
     private static final int MOST_PARAMETERS = 7;
     private static final int MOST_LINES = 60;
+    private static final int MOST_DEPTH = 8;
 
-    private static final String[] NEVER = {
-        "^package ", "^import ", "->", "::", "\\b(finally|synchronized|assert)\\b", "static \\{", "Exact\\(",
-        "\\bSystem\\.(?!arraycopy)", "while \\(true\\)", "for \\(;;\\)"
+    private static final Pattern[] NEVER = {
+        Pattern.compile("^package "), Pattern.compile("^import "), Pattern.compile("->"), Pattern.compile("::"),
+        Pattern.compile("\\b(try|finally) \\{|\\b(synchronized|assert)\\b"), Pattern.compile("static \\{"),
+        Pattern.compile("while \\(true\\)"), Pattern.compile("for \\(;;\\)"), Pattern.compile("[^\\x00-\\xff]")
     };
+    private static final Pattern THROW = Pattern.compile("throw new (IllegalStateException|IllegalArgumentException|"
+        + "IndexOutOfBoundsException|ArithmeticException|UnsupportedOperationException)\\(\"[^\"]+\"\\);");
+    private static final Pattern NAME = Pattern.compile("\\b([A-Z]\\w*[a-z]\\w*)\\.\\w+");
+    /** Of what rule 4 allows the class uses just these. */
+    private static final Set<String> LIBRARY = Set.of("Math.min", "System.arraycopy");
+    private static final Set<Class<?>> CONSTANTS = Set.of(int.class, long.class, int[].class, long[].class);
+    /** The first line of a method; its exceptions may go on in the next. */
+    private static final Pattern HEAD =
+        Pattern.compile("^( {4}| {8})\\S.*?(\\w+)\\([^;=]*\\) (throws [\\w, ]+,|.*\\{)$");
+    private static final Pattern CALL = Pattern.compile("(\\w+)\\(");
 
     public static void main(String[] args) throws IOException {
         List<String> lines = Files.readAllLines(SOURCE);
-        for (String never : NEVER) {
-            Pattern pattern = Pattern.compile(never);
-            for (int i = 0; i < lines.size(); i++) {
-                String line = lines.get(i).strip();
-                boolean comment = line.startsWith("/") || line.startsWith("*");
-                Check.isTrue("line " + (i + 1) + " is without " + never, comment || !pattern.matcher(line).find());
-            }
-        }
-        methodsAreShort(lines);
         List<Class<?>> classes = new ArrayList<>(List.of(ModuleSigner.class.getDeclaredClasses()));
         classes.add(ModuleSigner.class);
         Check.isTrue("there are " + classes.size() + " classes", classes.size() <= MOST_CLASSES);
+        Set<String> own = new TreeSet<>();
         for (Class<?> one : classes) {
+            own.add(one.getSimpleName());
             fitsTheRules(one);
         }
+        for (int i = 0; i < lines.size(); i++) {
+            String line = lines.get(i).strip();
+            if (!line.startsWith("/") && !line.startsWith("*")) {
+                fitsTheRules("line " + (i + 1), line, own);
+            }
+        }
+        Map<String, Set<String>> calls = calls(lines);
+        for (String method : calls.keySet()) {
+            goesDown(method, calls, new ArrayList<>());
+        }
+        Check.isTrue("the methods are found", calls.keySet().containsAll(Set.of("dsaSign", "permute", "ModuleSigner")));
         Check.finish("LanguageTest");
+    }
+
+    private static void fitsTheRules(String where, String line, Set<String> own) {
+        for (Pattern never : NEVER) {
+            Check.isTrue(where + " is without " + never, !never.matcher(line).find());
+        }
+        Check.isTrue(where + " throws as rule 6 says", !line.contains("throw ") || THROW.matcher(line).matches());
+        Matcher name = NAME.matcher(line);
+        while (name.find()) {
+            Check.isTrue(where + " may use " + name.group(),
+                LIBRARY.contains(name.group()) || own.contains(name.group(1)));
+        }
     }
 
     private static void fitsTheRules(Class<?> one) {
@@ -46,8 +79,8 @@ public final class LanguageTest {
         for (Field field : one.getDeclaredFields()) {
             boolean isStatic = Modifier.isStatic(field.getModifiers());
             fields += isStatic ? 0 : 1;
-            Check.isTrue("a static field is final: " + field.getName(),
-                !isStatic || Modifier.isFinal(field.getModifiers()));
+            Check.isTrue("a static field is final, and a constant: " + field.getName(),
+                !isStatic || Modifier.isFinal(field.getModifiers()) && CONSTANTS.contains(field.getType()));
         }
         Check.isTrue(one.getSimpleName() + " has " + fields + " fields", fields <= MOST_FIELDS);
         List<Executable> all = new ArrayList<>(List.of(one.getDeclaredMethods()));
@@ -55,7 +88,7 @@ public final class LanguageTest {
         for (Executable method : all) {
             Check.isTrue(method + " takes few parameters", method.getParameterCount() <= MOST_PARAMETERS);
             Check.isTrue(method + " is not named as one of the face",
-                one == ModuleSigner.class || !isOfTheFace(method.getName()));
+                Modifier.isPublic(method.getModifiers()) || !isOfTheFace(method.getName()));
         }
     }
 
@@ -68,19 +101,41 @@ public final class LanguageTest {
         return false;
     }
 
-    /** A method starts with a line that ends in an opening brace, and ends with a brace as far in as its start. */
-    private static void methodsAreShort(List<String> lines) {
-        Pattern start = Pattern.compile("^( {4}| {8})\\S.*\\) (throws [\\w, ]+)?\\{$");
+    /**
+     * For each method the names of all that its text calls; looks at its length, too. Methods of the same name are
+     * taken as one: so more may be found than there is, but not less.
+     */
+    private static Map<String, Set<String>> calls(List<String> lines) {
+        Map<String, Set<String>> calls = new TreeMap<>();
         for (int i = 0; i < lines.size(); i++) {
-            String line = lines.get(i);
-            if (start.matcher(line).matches()) {
-                String end = line.substring(0, line.length() - line.stripLeading().length()) + "}";
-                int last = i;
-                while (last < lines.size() && !lines.get(last).equals(end)) {
-                    last++;
+            Matcher head = HEAD.matcher(lines.get(i));
+            if (head.matches()) {
+                int last = i + lines.subList(i, lines.size()).indexOf(head.group(1) + "}");
+                String name = head.group(2);
+                Check.isTrue(name + " has " + (last - i + 1) + " lines", last - i + 1 <= MOST_LINES);
+                Matcher call = CALL.matcher(String.join(" ", lines.subList(i + 1, last)));
+                Set<String> called = calls.computeIfAbsent(name, unused -> new TreeSet<>());
+                while (call.find()) {
+                    called.add(call.group(1));
                 }
-                Check.isTrue(line.strip() + " has " + (last - i + 1) + " lines", last - i + 1 <= MOST_LINES);
             }
         }
+        return calls;
+    }
+
+    /** Rule 11: without recursion, of which there is none, at most eight calls stand open at once. */
+    private static void goesDown(String method, Map<String, Set<String>> calls, List<String> open) {
+        boolean again = open.contains(method);
+        open.add(method);
+        Check.isTrue("no recursion: " + open, !again);
+        Check.isTrue("not too deep: " + open, open.size() <= MOST_DEPTH);
+        if (!again) {
+            for (String called : calls.get(method)) {
+                if (calls.containsKey(called)) {
+                    goesDown(called, calls, open);
+                }
+            }
+        }
+        open.remove(open.size() - 1);
     }
 }

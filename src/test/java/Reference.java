@@ -268,29 +268,31 @@ final class Reference {
         return shake128(join(part(key, 0, 32), two(j, i)), 3 * MOST_TRIPLES);
     }
 
-    static int[] sample(byte[] stream) {
-        int[] f = new int[256];
+    /** How many triples of the stream SAMPLE takes, and the polynomial that they give. */
+    static int sample(byte[] stream, int[] f) {
         int filled = 0;
-        for (int i = 0; i < MOST_TRIPLES && filled < 256; i++) {
-            if (triple(stream, i) < Q) {
-                f[filled++] = triple(stream, i);
+        int taken = 0;
+        while (taken < MOST_TRIPLES && filled < 256) {
+            int value = triple(stream, taken++);
+            if (value < Q) {
+                f[filled++] = value;
             }
         }
-        return full(f, filled);
+        needAll(filled);
+        return taken;
     }
 
-    private static int[] full(int[] f, int filled) {
+    private static void needAll(int filled) {
         if (filled < 256) {
             throw new ArithmeticException();
         }
-        return f;
     }
 
     int[][][] matrix(byte[] key) {
-        int[][][] matrix = new int[k][l][];
+        int[][][] matrix = new int[k][l][256];
         for (int i = 0; i < k; i++) {
             for (int j = 0; j < l; j++) {
-                matrix[i][j] = sample(sampleStream(key, i, j));
+                sample(sampleStream(key, i, j), matrix[i][j]);
             }
         }
         return matrix;
@@ -312,7 +314,7 @@ final class Reference {
                 }
             }
         }
-        full(f, filled);
+        needAll(filled);
         return taken;
     }
 
@@ -455,6 +457,8 @@ final class Reference {
         int mostDrop;
         int hintCount;
         int[][] hints;
+        /** How many bytes behind the first 8 BALL took. */
+        int ballBytes;
         byte[] signature;
     }
 
@@ -497,7 +501,9 @@ final class Reference {
         Try one = new Try();
         int[][] images = multiply(matrix, ntts(masks));
         byte[] challenge = h(c, m, packHighs(images, new int[k][0]));
-        int[] ball = ball(challenge).f;
+        Ball cast = ball(challenge);
+        int[] ball = cast.f;
+        one.ballBytes = cast.taken;
         int[][] answers = new int[l][];
         for (int i = 0; i < l; i++) {
             answers[i] = sum(masks[i], times(ball, secrets[i]), 1);

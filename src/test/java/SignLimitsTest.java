@@ -11,10 +11,11 @@ import java.util.Random;
  * Boundaries that no run of calls reaches, or none that is known:
  * "a |b T0 i| is g2 or more" in sets 1 and 2: T0 is 4096 at most, and t coefficients of b are not 0, so |b T0 i| is at
  * most 49 * 4096 = 200704 or 60 * 4096 = 245760, and g2 is 261888.
- * "at most 121, else ArithmeticException" of BALL: VerifyLimitsTest says why.
+ * "at most 121, else ArithmeticException" of BALL: VerifyLimitsTest says why, LoweredLimitsTest goes over it.
  * "After 814 of them: ArithmeticException" in set 1, just inside and just outside: even a T0 as far out as can be lets
  * one try in some 75 hold there, so only one run in some millions would have try 814 as the first that holds, and none
- * was met. A SECRET for which no try holds is known and tested; in sets 0 and 2 both sides are.
+ * was met. A SECRET for which no try holds is known and tested; in sets 0 and 2 both sides are. LoweredLimitsTest has
+ * both sides in all sets, with fewer tries.
  */
 public final class SignLimitsTest {
     private static final int ANSWER = 0;

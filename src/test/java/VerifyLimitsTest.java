@@ -10,7 +10,7 @@ import java.util.Arrays;
  * chosen, but not what SHAKE256 makes of it, and more than 121 - t of 121 bytes would have to be above i, which is at
  * least 256 - t: for t 60 that is about 1 C in 2^75, for t 49 1 in 2^124, for t 39 1 in 2^184. (The first 8 bytes, read
  * before that, are not counted among the 121.) What is tested is the farthest of ten million Cs. Nor is a run known for
- * the ArithmeticException of SAMPLE in dsaSign and dsaVerify: KeysTest says why.
+ * the ArithmeticException of SAMPLE in dsaSign and dsaVerify: KeysTest says why. LoweredLimitsTest goes over both.
  */
 public final class VerifyLimitsTest {
     /** As how 0 has the message "a" with no CONTEXT: so OpenSSL could be asked about these packets, and it agreed. */
